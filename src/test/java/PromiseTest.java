@@ -266,6 +266,15 @@ public final class PromiseTest {
         due("no eaters of the old text", x.count(2), 0);
         due("no demands of the old text", x.bake(1, 1, 0), NONE);
         due("no recipes of the old text", x.soup(-1), 0);
+        write(x, "g1,0;h0;e0,0,1;d1,3;d1,3;d1,4;");
+        x.lay();
+        x.pass(5);
+        due("lay again", x.lay(), 1);
+        due("hungry no more", x.eater(0, 1), 0);
+        write(x, "g1,0;h0;d1,4;d1,6;");
+        due("only the new demands", x.lay(), 1);
+        write(x, "g1,0;h0;d1,3;d1,3;");
+        due("only the new demands", x.lay(), NO);
         write(x, "g2,0;h0;s0,0,5;s0,0,3;");
         x.lay();
         due("the last one of two", x.house(0, 0, 0), 3);
@@ -433,6 +442,15 @@ public final class PromiseTest {
         due("NO ahead of FULL", x.give(3, 2, 0, 40), NO);
         due("BAD ahead of FULL", x.give(3, 2, 0, 41), BAD);
         due("six on the way do not stop the same cell", x.give(0, 1, 0, 1), 7);
+        x = laid("g1,0;h30;h31;s0,0,40;");
+        for (int i = 0; i < 6; i++) {
+            due("next door", x.give(0, 1, 0, 2), 1);
+        }
+        due("the seventh next door", x.give(0, 1, 0, 2), FULL);
+        due("back there none is", x.give(1, 0, 0, 1), NO);
+        x.pass(1);
+        due("all six are there", x.house(1, 0, 0), 12);
+        due("and six more can be sent", x.give(0, 1, 0, 2), 2);
         x = laid("g1,0;h0;h60;s0,0,2;");
         due("in the last minute", x.give(0, 1, 0, 1), 60);
         due("it comes", x.house(1, 0, 2), 1);
@@ -501,8 +519,10 @@ public final class PromiseTest {
         x.pass(9);
         due("eight at most", x.count(7), 8);
         due("refused calls are none of them", x.pass(60), NO);
+        int[] minutes = {36, 28, 21, 15, 10, 6, 3, 1};
         for (int left = 7; left >= 0; left--) {
             due("undo", x.undo(), left);
+            due("the minute", x.count(5), minutes[7 - left]);
         }
         due("the first can not be undone", x.undo(), NO);
         due("the minute behind it", x.count(5), 1);
@@ -592,6 +612,10 @@ public final class PromiseTest {
         x = laid("g4,1;g4,1;h0;h0;s0,0,4;s0,1,4;");
         due("the least good", x.gift(0), 101);
         due("half is cut in both", x.gift(1), 12);
+        x = laid("g1,0;g1,2;g9,0;g2,0;h0;h60;h60;s0,0,9;s0,1,9;s2,2,3;s2,3,9;");
+        x.pass(1);
+        due("of a good that is not the first", x.gift(0), 2023);
+        due("as much", x.gift(1), 27);
         x = laid("g1,0;h0;h60;h60;s1,0,40;");
         x.pass(1);
         due("from", x.gift(0), 1009);
@@ -665,6 +689,9 @@ public final class PromiseTest {
         due("to the end", x.round(60, 99, 1), 60);
         due("where it starts", x.round(25, 0, 0), 6);
         due("where it starts", x.round(25, 0, 1), 0);
+        due("from 0", x.round(0, 0, 0), 21);
+        due("from 0", x.round(0, 25, 0), 33);
+        due("from 0", x.round(0, 25, 1), 25);
         due("x", x.round(-1, 0, 0), BAD);
         due("x", x.round(61, 0, 0), BAD);
         due("m", x.round(0, -1, 0), BAD);
@@ -678,6 +705,16 @@ public final class PromiseTest {
         due("both", x.round(20, 30, 1), 30);
         due("only one", x.round(20, 29, 0), 10);
         due("only one", x.round(20, 29, 1), 10);
+        x = laid("g2,0;h40;h10;h34;s0,0,5;s1,0,5;s2,0,1;");
+        due("up first", x.round(31, 30, 0), 12);
+        due("up, then down", x.round(31, 39, 0), 22);
+        due("up, then down", x.round(31, 39, 1), 39);
+        due("down is too far behind it", x.round(31, 38, 0), 12);
+        due("down and up is farther", x.round(31, 38, 1), 9);
+        due("down first", x.round(15, 35, 0), 22);
+        due("down first", x.round(15, 35, 1), 35);
+        due("down first", x.round(15, 34, 0), 12);
+        due("up to both is nearer", x.round(15, 34, 1), 25);
     }
 
     private static void bakes() {
@@ -703,6 +740,9 @@ public final class PromiseTest {
         due("below", x.bake(1, 1, 2), 1);
         due("twenty", x.bake(1, 2, 0), 20);
         due("twenty", x.bake(1, 2, 1), 10);
+        x = laid("g1,0;h0;d1,10;");
+        due("one", x.bake(1, 1, 0), 1);
+        due("one", x.bake(1, 1, 1), 0);
         x = laid("g1,0;h0;d0,9;d1,1;");
         due("a tenth", x.bake(9, 1, 1), 1);
         due("a tenth", x.bake(9, 1, 2), 10);
@@ -782,6 +822,15 @@ public final class PromiseTest {
         x.undo();
         x.toss(0, 2, 5);
         due("from what is taken", x.soup(-1), 15);
+        x = laid("g1,0;g1,0;g1,0;h0;s0,0,9;s0,1,8;s0,2,4;k0,0,7;k0,1,8;k2,2,1;");
+        due("all of recipe 1, and 2", x.soup(-1), 66);
+        due("recipe 0", x.soup(0), 0);
+        due("recipe 1", x.soup(1), 8);
+        due("recipe 2", x.soup(2), 2);
+        write(x, "g1,0;h0;k0,0,9;");
+        x.lay();
+        due("nothing to cook from", x.soup(-1), 0);
+        due("nothing to cook from", x.soup(0), 0);
         x = laid("g1,0;h0;s0,0,9;");
         due("no recipes", x.soup(-1), 0);
         due("no recipes", x.soup(0), BAD);
