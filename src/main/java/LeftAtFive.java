@@ -797,7 +797,7 @@ public final class LeftAtFive {
 
         private void moveWay(int from, int to) {
             for (int what = 0; from != to && what < TOLD; what++) {
-                Rows.put(sent, to * TOLD + what, tellWay(from, what));
+                Rows.put(sent, to * TOLD + what, Rows.at(sent, from * TOLD + what));
             }
         }
 

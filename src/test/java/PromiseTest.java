@@ -827,8 +827,9 @@ public final class PromiseTest {
         due("recipe 0", x.soup(0), 0);
         due("recipe 1", x.soup(1), 8);
         due("recipe 2", x.soup(2), 2);
-        write(x, "g1,0;h0;k0,0,9;");
-        x.lay();
+        x = laid("g1,0;h0;s0,0,4;k0,0,9;");
+        due("two soups", x.soup(0), 2);
+        x.toss(0, 0, 4);
         due("nothing to cook from", x.soup(-1), 0);
         due("nothing to cook from", x.soup(0), 0);
         x = laid("g1,0;h0;s0,0,9;");
