@@ -1,3 +1,5 @@
+import java.util.List;
+
 /** Terms 3 and 4: what will be, and shops: each sentence with a bound, at both its ends. */
 final class AheadEdges extends Edges {
     private static final String P = "g1,0;h0;";
@@ -446,7 +448,7 @@ final class AheadEdges extends Edges {
         due("never better: the first such", x.buy(50, 30, 0, 0, 0), 0);
         due("never better, a loss that stays", x.buy(0, 99, 0, 0, 0), 0);
         due("nothing at all", x.buy(7, 7, 0, 3, 0), 0);
-        // 4 at once, 8 by a half in the next minute, 12 by a fourth then.
+        // 4 at once; 8 by a half in the next minute.
         due("as good: the first such", x.buy(8, 4, 4, 5, 0), 0);
         due("a loss by chance: the last one is the least", x.buy(0, 99, 0, 1, 0), 10);
     }
@@ -502,6 +504,12 @@ final class AheadEdges extends Edges {
         x = laid(P + "s0,0,9;");
         due("no recipes", x.soup(-1), 0);
         due("nothing there", laid(P + "k0,0,9;").soup(-1), 0);
+        x = laid("g1,0;g1,0;h0;s0,0,4;s0,1,4;k0,0,5;k0,1,4;");
+        due("two cheap ones for a dear one of two alike", x.soup(-1), 16);
+        due("two cheap ones for a dear one of two alike", x.soup(1), 4);
+        x.toss(0, 0, 4);
+        due("nothing there any more", x.soup(-1), 0);
+        due("nothing there any more", x.soup(1), 0);
         due("one piece for two", laid(P + "s0,0,1;k0,0,9;").soup(-1), 0);
         x = laid("g1,0;g1,0;h0;s0,0,40;k0,1,9;");
         due("none of the other one", x.soup(-1), 0);
@@ -696,13 +704,13 @@ final class AheadEdges extends Edges {
         LeftAtFive x = new LeftAtFive();
         x.give(0, 2, 0, 5);
         x.pass(20);
-        java.util.List<String> then = stand(x);
+        List<String> then = stand(x);
         x.keep();
         x.toss(0, 0, 2);
         x.give(1, 0, 3, 2);
         x.pass(40);
         due("back", x.back(), 0);
-        java.util.List<String> back = stand(x);
+        List<String> back = stand(x);
         // Nothing is undone then: two more could be ahead of it.
         due("undone ahead", then.indexOf("count(7) 2"), 7);
         then.set(7, "count(7) 0");

@@ -239,14 +239,26 @@ final class PromiseEdges extends Edges {
         due("the text stays", x.fault(), NONE);
         due("at five", after(x, 60).lay(), 3);
         due("four again", x.count(5), 0);
-        // What the old street had and the new one has not is there no more.
+        noneOfTheOldStreet("g2,0;g1,0;h0;h1;");
+        noneOfTheOldStreet("g2,0;g1,0;h0;h1;s0,0,9;s1,1,2;e1,1,7;d9,10;k0,1,2;");
+        noneOfTheOldStreet(times(5, "g9,3;") + times(5, "h60;") + "s4,4,9;" + times(7, "e4,4,1;") + times(4, "d2,0;")
+                + "d1,10;" + times(2, "k4,4,9;"));
+    }
+
+    /** Two full streets are laid ahead of it: what they had and this one has not is there no more. */
+    private static void noneOfTheOldStreet(String text) {
+        String full = times(5, "g1,0;") + times(5, "h0;") + "s0,0,40;s4,4,40;" + times(8, "e0,0,1;") + times(5, "d20,2;")
+                + times(3, "k0,0,1;");
+        LeftAtFive x = laid(full);
+        x.lay();
         x.wipe();
-        write(x, "g2,0;g1,0;h0;h1;");
-        due("lay", x.lay(), 2);
-        due("no pieces", x.house(0, 0, 0) + x.house(0, 1, 0) + x.house(1, 0, 0) + x.house(1, 1, 0), 0);
-        due("no eaters", x.count(2), 0);
-        due("no demands", x.bake(1, 1, 0), NONE);
-        due("no recipes", x.soup(-1), 0);
+        write(x, text);
+        int houses = x.lay();
+        due("lay", x.lay(), houses);
+        LeftAtFive y = laid(text);
+        alike("laid behind a full street: " + text, asked(x), asked(y));
+        due("pass", x.pass(60), y.pass(60));
+        alike("laid behind a full street, at five: " + text, asked(x), asked(y));
     }
 
     private static void layRefused() {

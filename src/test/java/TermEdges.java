@@ -222,6 +222,8 @@ final class TermEdges extends Edges {
             LeftAtFive x = laid("g1," + kind + ";h0;s0,0,9;");
             due("nine of kind " + kind + " now", x.house(0, 0, 1), leftNow[kind]);
             due("nine of kind " + kind + " at five", x.house(0, 0, 2), leftAtFive[kind]);
+            x = laid("g1,0;g1,1;g1,2;g1,3;g1," + kind + ";h0;s0,4,9;");
+            due("nine of the fifth good, of kind " + kind + ", at five", x.house(0, 4, 2), leftAtFive[kind]);
         }
     }
 
@@ -345,6 +347,14 @@ final class TermEdges extends Edges {
             due("eater " + i, x.eater(i, 0), i < 4 ? 1 : 0);
         }
         due("eater 8", x.eater(8, 0), BAD);
+        x.pass(59);
+        for (int i = 0; i < 8; i++) {
+            due("eater " + i + ", eight meals in each of sixty minutes", x.eater(i, 0) + x.eater(i, 1), 60);
+        }
+        x = laid(P + "s0,0,9;" + eight);
+        x.pass(1);
+        due("the last of eight eats, too", x.eater(7, 0), 1);
+        due("a piece is there still", x.house(0, 0, 0), 1);
         due("no eaters", laid(P).count(2), 0);
     }
 
@@ -746,8 +756,12 @@ final class TermEdges extends Edges {
         due("eight at most", x.count(7), 8);
         x.toss(0, 0, 1);
         due("eight at most", x.count(7), 8);
+        int[] pieces = {8, 9, 9, 9, 9, 9, 9, 9};
+        int[] minutes = {8, 8, 7, 6, 5, 4, 3, 2};
         for (int left = 7; left >= 0; left--) {
             due("ten done", x.undo(), left);
+            due("then it is minute", x.count(5), minutes[7 - left]);
+            due("then so many pieces are there", x.house(0, 0, 0), pieces[7 - left]);
         }
         due("the first two minutes are not undone", x.undo(), NO);
         due("the first two minutes are not undone", x.count(5), 2);
