@@ -863,6 +863,9 @@ public final class LeftAtFive {
         }
 
         private void dropLowest() {
+            if (copies.length == 0) {
+                return;
+            }
             Kitchens lowest = copies[0];
             for (int i = 1; i < copies.length; i++) {
                 copies[i - 1] = copies[i];

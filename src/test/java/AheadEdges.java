@@ -24,7 +24,7 @@ final class AheadEdges extends Edges {
 
     private static void gifts() {
         String t = "Terms 3";
-        test(t, "of all single ones now", AheadEdges::giftsNow);
+        test(t, "GIFT: of all single ones now", AheadEdges::giftsNow);
         test(t, "(from HOUSE to HOUSE, of a GOOD, of 1 to 9 pieces)", AheadEdges::giftPieces);
         test(t, "that by which TAKEN in all HOUSES together is worth least", AheadEdges::giftLeast);
         test(t, "of several the first (by from, to, GOOD, pieces, the least first):", AheadEdges::giftOfSeveral);

@@ -2,7 +2,7 @@ import java.io.IOException;
 import java.nio.charset.StandardCharsets;
 import java.nio.file.Files;
 import java.nio.file.Path;
-import java.util.ArrayList;
+import java.util.Arrays;
 import java.util.LinkedHashMap;
 import java.util.List;
 import java.util.Map;
@@ -10,17 +10,22 @@ import java.util.regex.Matcher;
 import java.util.regex.Pattern;
 
 /**
- * Each sentence of the document that names a bound has a test of its own, named by the document's part and the
- * sentence itself: those of Terms 1 and 2 stand in TermEdges, of Terms 3 and 4 in AheadEdges, of the promises in
- * PromiseEdges. Then the names are looked at: each must stand in the document, and no bound there without a test.
+ * Each sentence of the document has a test of its own, named by the document's part and the sentence itself: those of
+ * "What it is" and "The public face" stand in FaceEdges, of Terms 1 and 2 in TermEdges, of Terms 3 and 4 in AheadEdges,
+ * of the promises in PromiseEdges. Then the names are looked at: each must stand in the document, and no word there
+ * without a test.
  */
 public final class EdgeTest {
     private static final Path DOCUMENT = Path.of("..", "shared", "DOC.md");
-    private static final Pattern PART = Pattern.compile("^(?:## (.*)|======== (\\d+) .*)$");
-    private static final Pattern BOUND = Pattern.compile("\\d+ to \\d+|\\d+ at most|at the most|at least|at once"
-            + "|the last \\d+|\\bnone\\b|beyond|behind five|not so many|told ahead|\\b(?:BAD|NO|NONE|FULL)\\b");
+    private static final Pattern PART = Pattern.compile("^(?:## (.*)|======== (\\d+) (.*))$");
+    private static final Pattern WORD = Pattern.compile("\\p{Alnum}");
+
+    /** What is left free, or only names what follows: nothing to test. */
+    private static final List<String> FREE = List.of("what later calls answer is free.");
+    private static final List<String> FREE_PARTS = List.of("", "Terms", "Not promised");
 
     public static void main(String[] args) throws IOException {
+        FaceEdges.all();
         TermEdges.all();
         AheadEdges.all();
         PromiseEdges.all();
@@ -36,18 +41,20 @@ public final class EdgeTest {
         }
     }
 
-    /** The document's parts, named as the tests name them, each on one line. */
+    /** The document's parts, named as the tests name them, each on one line, without its heads and fences. */
     private static Map<String, String> parts(List<String> lines) {
         Map<String, String> parts = new LinkedHashMap<>();
         String part = "";
         for (String line : lines) {
             Matcher head = PART.matcher(line);
+            String text = line.startsWith("```") || line.startsWith("# ") ? "" : line;
             if (head.matches()) {
                 part = head.group(1) == null ? "Terms " + head.group(2) : head.group(1).replaceAll(":.*", "");
+                text = head.group(1) == null ? head.group(3) : "";
             }
-            parts.merge(part, line, (before, next) -> before + " " + next);
+            parts.merge(part, text, (before, next) -> before + " " + next);
         }
-        parts.replaceAll((name, text) -> text.replace("`", "").replaceAll("\\s+", " "));
+        parts.replaceAll((name, text) -> text.replace("`", "").replaceAll("\\s+", " ").trim());
         return parts;
     }
 
@@ -62,7 +69,7 @@ public final class EdgeTest {
             }
         }
         for (Map.Entry<String, String> part : parts.entrySet()) {
-            if (part.getKey().matches("(Terms|Promise) \\d+")) {
+            if (!FREE_PARTS.contains(part.getKey())) {
                 wrong += untested(part.getKey(), part.getValue());
             }
         }
@@ -70,21 +77,26 @@ public final class EdgeTest {
     }
 
     private static int untested(String part, String text) {
-        List<int[]> tested = new ArrayList<>();
+        char[] letters = text.toCharArray();
         for (String sentence : Edges.SENTENCES.getOrDefault(part, List.of())) {
-            int start = text.indexOf(sentence);
-            tested.add(new int[] {start, start + sentence.length()});
+            blank(letters, text.indexOf(sentence), sentence.length());
+        }
+        for (String sentence : FREE) {
+            blank(letters, text.indexOf(sentence), sentence.length());
         }
         int wrong = 0;
-        for (Matcher bound = BOUND.matcher(text); bound.find(); ) {
-            int start = bound.start();
-            int end = bound.end();
-            if (tested.stream().noneMatch(span -> span[0] <= start && end <= span[1])) {
+        for (String words : new String(letters).split("  +")) {
+            if (WORD.matcher(words).find()) {
                 wrong++;
-                System.out.println("without a test in " + part + ": .." + text.substring(Math.max(0, start - 30),
-                        Math.min(text.length(), end + 30)) + "..");
+                System.out.println("without a test in " + part + ": .." + words.trim() + "..");
             }
         }
         return wrong;
+    }
+
+    private static void blank(char[] letters, int start, int length) {
+        if (start >= 0) {
+            Arrays.fill(letters, start, start + length, ' ');
+        }
     }
 }

@@ -71,7 +71,7 @@ final class TermEdges extends Edges {
     private static void done() {
         String t = "Terms 2";
         test(t, "A GIFT of n pieces from a HOUSE to another one is out of the one at once", TermEdges::outAtOnce);
-        test(t, "comes in the minute that is as many from now as the cells between them", TermEdges::cellsBetween);
+        test(t, "and comes in the minute that is as many from now as the cells between them", TermEdges::cellsBetween);
         test(t, "(at the same cell: at once, it is never on the way)", TermEdges::sameCell);
         test(t, "6 at most are on the way", TermEdges::sixOnTheWayAtMost);
         test(t, "(those that come behind five as well)", TermEdges::behindFiveAsWell);
@@ -83,7 +83,7 @@ final class TermEdges extends Edges {
 
     private static void left() {
         String t = "Terms 2";
-        test(t, "SOLID, SPOILING ones all", TermEdges::leftAll);
+        test(t, "LEFT are at a time of so many pieces of a GOOD in a HOUSE: SOLID, SPOILING ones all", TermEdges::leftAll);
         test(t, "LIQUID ones half of them (cut, HOUSE by HOUSE)", TermEdges::leftHalf);
         test(t, "SEALED ones none; on the way none.", TermEdges::leftNone);
         test(t, "TAKEN is what is LEFT at five, nothing else being done: by pieces, by what it is worth.", TermEdges::takenAtFive);
