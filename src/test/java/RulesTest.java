@@ -50,14 +50,22 @@ public final class RulesTest {
             }
         }
         must(open.equals(new TreeSet<>(Arrays.asList(FACE))), "1: the face is " + open);
-        for (Method m : c.getDeclaredMethods()) {
-            must(!Modifier.isPrivate(m.getModifiers()) || !names.contains(m.getName()), "1: a private " + m.getName());
+        noPrivateNames(c, names);
+        for (Class<?> inner : c.getDeclaredClasses()) {
+            must(!Modifier.isPublic(inner.getModifiers()) && !Modifier.isProtected(inner.getModifiers()), "1: open " + inner);
+            noPrivateNames(inner, names);
         }
         Constructor<?>[] made = c.getDeclaredConstructors();
         must(made.length == 1 && Modifier.isPublic(made[0].getModifiers()) && made[0].getParameterCount() == 0, "1: constructor");
         List<String> constants = List.of("BAD", "NO", "FULL", "NONE");
         for (Field f : c.getDeclaredFields()) {
             must(Modifier.isPrivate(f.getModifiers()) || constants.contains(f.getName()), "1: field " + f.getName());
+        }
+    }
+
+    private static void noPrivateNames(Class<?> c, Set<String> names) {
+        for (Method m : c.getDeclaredMethods()) {
+            must(!Modifier.isPrivate(m.getModifiers()) || !names.contains(m.getName()), "1: a private " + m);
         }
     }
 
